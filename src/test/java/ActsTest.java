@@ -399,12 +399,12 @@ public final class ActsTest {
 
     private static void undone() {
         WindPark park = with(s(0, HELD, 0, 1), s(1, TAKE, 0), s(1, FIT, 0, 3), s(1, TAKE, 1), s(1, LAY, 4), s(1, WRITE, 2, 0, 5),
-            s(1, WRITE, 2, 0, 6), s(1, TAKE, 2), s(1, SAY, 3), s(1, FAIL, 6), s(2, HELD, 0, 3), s(3, TAKE, 5), s(3, FIT, 0, 3));
+            s(1, WRITE, 2, 0, 6), s(1, WRITE, 2, 1, 7), s(1, TAKE, 2), s(1, SAY, 3), s(1, FAIL, 6), s(2, HELD, 0, 3), s(3, TAKE, 5), s(3, FIT, 0, 3));
         park.part(5, 3);
         Due.is(27, "fit", park.act(2), 0);
         park.part(0, 3);
         park.part(1, 0);
-        park.row(2, 3, 1);
+        park.row(2, 3, 2);
         park.put(2, 3, 0, 9);
         park.set(2, 6);
         Due.is(27, "fails", park.act(0), -16);
@@ -412,10 +412,11 @@ public final class ActsTest {
         Due.is(27, "case 1", park.told(1, 1), 2);
         Due.is(27, "case 2", park.alike(2, 6), 1);
         Due.is(27, "the item", park.get(2, 3, 0), 9);
+        Due.is(27, "the other item", park.get(2, 3, 1), 0);
         Due.is(27, "case 4", park.holds(4), WindPark.NONE);
         Due.is(27, "case 23", park.holds(23), WindPark.NONE);
         Due.is(36, "the slot", park.of(0, 11), 0);
-        acted(park, "undone", 0, 10, 2, 1, 0, 0);
+        acted(park, "undone", 0, 11, 2, 1, 0, 0);
         said(park, "the log stays", 3);
     }
 }

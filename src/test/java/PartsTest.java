@@ -177,6 +177,14 @@ public final class PartsTest {
         Due.is(23, "cast of infinity", park.seconds(5, 5, 4), Long.MIN_VALUE / 3);
         park = withRows(Double.MAX_VALUE, Double.MAX_VALUE, -infinite);
         Due.is(23, "a sum that grew infinite", park.seconds(6, 6, 2), NO_NUMBER);
+        double[] alone = {Double.MAX_VALUE, -Double.MAX_VALUE, 9007199254740992.0, 9007199254740994.0, 4503599627370496.0,
+            -4503599627370495.5, 1.0e200, 1.0e-200, Double.MIN_NORMAL, -2.2250738585072011e-308, Math.PI, -1.0};
+        for (double number : alone) {
+            park = withRows(number);
+            Due.bits(23, "mean of one", park.seconds(6, 6, 2), number);
+            Due.is(23, "mean of one as longs", park.seconds(6, 6, 4), (long) number);
+            Due.bits(23, "of a float", park.seconds(5, 5, 2), 0.0 + (double) (float) number);
+        }
         park = withRows(Double.MIN_VALUE, Double.MIN_VALUE, Double.MIN_NORMAL);
         Due.bits(23, "least of all", park.seconds(6, 6, 1), Double.MIN_VALUE);
         Due.bits(23, "small mean", park.seconds(6, 6, 2), (2 * Double.MIN_VALUE + Double.MIN_NORMAL) / 3);

@@ -16,6 +16,8 @@ public final class TurbinesTest {
         coldVotes();
         coldVotesOfFailedAndBare();
         firstSteps();
+        stepsByTheFormulas();
+        turnsAtTheEdges();
         statesGoRound();
         tooFast();
         boundedTorque();
@@ -27,6 +29,7 @@ public final class TurbinesTest {
         findingsKept();
         wakes();
         wakesAddUp();
+        wakesTakeAllWind();
         orderOfTurbines();
         counts();
         why();
@@ -301,6 +304,108 @@ public final class TurbinesTest {
         Due.bits(34, "the next torque", park.of(0, TORQUE), torque);
         Due.bits(34, "the next turns", park.of(0, TURNS), turns);
         Due.bits(34, "the next energy", park.of(0, ENERGY), was[2] + torque * turns);
+    }
+
+    /** Readings and bounds that bring a turbine through all states but FAILED; each step is reckoned anew. */
+    private static void stepsByTheFormulas() {
+        double no = Double.NaN;
+        double[][] spells = {{9.0, 1000.0}, {12.0, 1000.0}, {12.0, 30.0}, {17.5, 60.0}, {25.0, 1000.0}, {31.0, 8.0}, {no, 20.0},
+            {14.0, 14.5}, {-2.0, 14.5}, {60.0, 500.0}, {no, 1000.0}, {9.25, 1.0e-300}};
+        WindPark park = fitted(1, 0.0);
+        int[] seen = new int[5];
+        for (double[] spell : spells) {
+            park.read(0, 0, bits(spell[0]));
+            park.bound(0, bits(spell[1]));
+            for (int i = 0; i < 45; i++) {
+                stepByTheFormulas(park, spell[0], spell[1]);
+                seen[(int) park.of(0, 0)]++;
+            }
+        }
+        for (int state = WAITING; state <= STOPPING; state++) {
+            Due.is(34, "state " + state + " was seen", seen[state] > 0 ? 1 : 0, 1);
+        }
+        Due.is(34, "and not FAILED", seen[FAILED], 0);
+    }
+
+    private static void stepByTheFormulas(WindPark park, double vote, double bound) {
+        double pitch = of(park, 0, PITCH);
+        double torque = of(park, 0, TORQUE);
+        double turns = of(park, 0, TURNS);
+        double energy = of(park, 0, ENERGY);
+        int state = stateAfter((int) park.of(0, 0), vote, turns, bound);
+        park.run(1);
+        double goal = state == STARTING ? 20.0 : state == MAKING ? Math.max(0.0, (turns - 10.0) * 8.0) : 90.0;
+        double rate = state == STOPPING ? 12.0 : 6.0;
+        pitch = pitch + Math.max(-rate, Math.min(rate, goal - pitch));
+        torque = state == MAKING ? torque + Math.max(-0.5, Math.min(0.5, turns * 0.5 - torque)) : torque / 2.0;
+        double wind = Double.isNaN(vote) ? 0.0 : vote;
+        turns = Math.max(0.0, turns + 0.1 * (wind * (1.0 - pitch / 90.0) - torque - 0.1 * turns));
+        if (torque * turns > bound) {
+            torque = bound / turns;
+        }
+        Due.is(34, "state by the formulas", park.of(0, 0), state);
+        Due.bits(34, "pitch by the formulas", park.of(0, PITCH), pitch);
+        Due.bits(34, "torque by the formulas", park.of(0, TORQUE), torque);
+        Due.bits(34, "turns by the formulas", park.of(0, TURNS), turns);
+        Due.bits(34, "energy by the formulas", park.of(0, ENERGY), energy + torque * turns);
+    }
+
+    private static int stateAfter(int state, double vote, double turns, double bound) {
+        boolean blind = Double.isNaN(vote);
+        if (state == WAITING) {
+            return !blind && vote >= 4.0 && bound > 0.0 ? STARTING : WAITING;
+        }
+        if (state == STOPPING) {
+            return turns < 0.5 ? WAITING : STOPPING;
+        }
+        if (blind || turns > 16.0) {
+            return STOPPING;
+        }
+        return turns >= 6.0 ? MAKING : state;
+    }
+
+    private static void turnsAtTheEdges() {
+        Due.is(34, "6.0 turns", stateBehind(reading(6.0, false), false), MAKING);
+        Due.is(34, "less", stateBehind(reading(Math.nextDown(6.0), false), false), STARTING);
+        Due.is(34, "16.0 turns", stateBehind(reading(16.0, false), false), MAKING);
+        Due.is(34, "more", stateBehind(reading(Math.nextUp(16.0), false), false), STOPPING);
+        Due.is(34, "0.5 turns", stateBehind(reading(0.5, true), true), STOPPING);
+        Due.is(34, "less", stateBehind(Math.nextDown(reading(0.5, true)) - 1.0e-12, true), WAITING);
+    }
+
+    /** A turbine that has started for six steps with 4.0 and one with a reading; then, if so told, was stopped for one. */
+    private static WindPark started(double reading, boolean stopped) {
+        WindPark park = fitted(1, 4.0);
+        park.run(6);
+        park.read(0, 0, bits(reading));
+        park.run(1);
+        if (stopped) {
+            park.read(0, 0, -1L);
+            park.run(1);
+        }
+        return park;
+    }
+
+    private static long stateBehind(double reading, boolean stopped) {
+        WindPark park = started(reading, stopped);
+        park.run(1);
+        return park.of(0, 0);
+    }
+
+    /** The reading with which a turbine comes to have just so many turns. */
+    private static double reading(double turns, boolean stopped) {
+        double low = -100.0;
+        double high = 900.0;
+        for (int i = 0; i < 200 && of(started(high, stopped), 0, TURNS) != turns; i++) {
+            double middle = (low + high) / 2.0;
+            if (of(started(middle, stopped), 0, TURNS) < turns) {
+                low = middle;
+            } else {
+                high = middle;
+            }
+        }
+        Due.bits(34, "the turns that the test looks for", bits(of(started(high, stopped), 0, TURNS)), turns);
+        return high;
     }
 
     private static void statesGoRound() {
@@ -622,6 +727,24 @@ public final class TurbinesTest {
             Due.is(34, "the same states", park.of(t, 0), states[t]);
         }
         Due.bits(34, "wakes added up", park.of(5, WIND), 8.0 * (1.0 - loss));
+    }
+
+    private static void wakesTakeAllWind() {
+        WindPark park = fitted(6, 12.0);
+        park.read(5, 0, bits(1.0));
+        park.place(5, 1, 0);
+        runUntil(park, 4, MAKING);
+        park.read(5, 0, bits(7.0));
+        park.run(1);
+        Due.bits(34, "wakes of five", park.of(5, WIND), 0.0);
+        park.read(5, 0, bits(-7.0));
+        park.run(1);
+        Due.bits(34, "wakes of five, the wind against", park.of(5, WIND), -0.0);
+        park.place(4, 1, 9);
+        park.run(1);
+        double d = 0.6 / (1.1 * 1.1);
+        double sum = d * d + d * d + d * d + d * d;
+        Due.bits(34, "wakes of four", park.of(5, WIND), -7.0 * (1.0 - Math.sqrt(sum)));
     }
 
     private static void orderOfTurbines() {
