@@ -516,8 +516,6 @@ public final class TurbinesTest {
 
     private static void wearOfParts() {
         WindPark park = new WindPark(1);
-        park.part(0, 0);
-        park.part(1, 0);
         fit(park, 0, 0, VANE_KIND);
         fit(park, 0, 3, PITCH_KIND);
         fit(park, 0, 4, BLADE_KIND);
@@ -528,11 +526,11 @@ public final class TurbinesTest {
             Due.is(34, "bodies of a drive", park.traced(i), bodies[i]);
         }
         park.run(10);
-        Due.is(34, "eleven times by 6", wear(park, 3), 11 * (6 * 6 / 100 + 6 / 3));
+        Due.is(34, "eleven times by 6", wear(park, 3), 11 * (6 * 6 / 100 + 6 / 1));
         park.run(1);
-        Due.is(34, "and by 4", wear(park, 3), 22 + 4 / 3);
+        Due.is(34, "and by 4", wear(park, 3), 66 + 4);
         park.run(1);
-        Due.is(34, "not by 0.0", wear(park, 3), 23);
+        Due.is(34, "not by 0.0", wear(park, 3), 70);
         Due.is(34, "the blade is not asked", wear(park, 4), 0);
         runUntil(park, 0, MAKING);
         Due.is(34, "the blade is asked", wear(park, 4), 8);
