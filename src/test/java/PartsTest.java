@@ -219,8 +219,8 @@ public final class PartsTest {
 
     private static void testsOfItems() {
         double[] items = {Double.NaN, -0.0, 0.0, 1.5, -1.5, Double.POSITIVE_INFINITY, Double.NEGATIVE_INFINITY, 1.0e-42};
-        WindPark park = withRows(items);
         for (int i = 0; i < items.length; i++) {
+            WindPark park = withRows(items);
             for (int j = 0; j < items.length; j++) {
                 double a = items[i];
                 double b = items[j];

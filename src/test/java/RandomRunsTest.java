@@ -8,10 +8,11 @@ import java.util.List;
 import java.util.Map;
 import java.util.Random;
 
-/** Promises 1 to 39 in runs of up to 512 calls, by seeds, each call and why() behind it held against the Model. */
+/** Promises 1 to 39 in runs of 512 calls, by seeds, each call and why() behind it held against the Model. */
 public final class RandomRunsTest {
-    private static final int RUNS = 3000;
+    private static final int RUNS = 6000;
     private static final int CALLS = 512;
+    private static final int CALLS_TO_LOOK = 120;
     private static final String[] STORE = {"row", "grid", "cradle", "part", "set", "clear", "holds", "put", "put", "put",
         "get", "get", "putAt", "putAt", "getAt", "getAt", "link", "link", "lay", "lay", "lift", "lift", "copy", "copy",
         "copy", "length", "alike", "alike", "ask", "told", "traced", "forget", "seconds", "seconds", "test", "count"};
@@ -75,36 +76,42 @@ public final class RandomRunsTest {
         if (profile == ACTS) {
             fillCases();
         }
-        while (calls < CALLS) {
+        while (calls < CALLS - CALLS_TO_LOOK) {
             String name = profile[random.nextInt(profile.length)];
             call(name, argumentsOf(name));
             if (random.nextInt(4) == 0 && (name.equals("run") || name.equals("act"))) {
                 lookAround();
             }
         }
+        while (calls < CALLS) {
+            lookAround();
+        }
     }
 
-    /** Not counted: what these calls answer changes nothing. */
+    /** A few looks at what the last call may have changed. */
     private void lookAround() throws ReflectiveOperationException {
-        int before = calls;
-        for (int t = 0; t < park.count(0); t++) {
-            for (int what = 0; what < 13; what++) {
-                call("of", t, what);
-            }
+        int t = random.nextInt(6);
+        for (int what = 0; what < 8; what++) {
+            look("of", t, what);
         }
-        for (int c = 0; c < 24; c++) {
-            call("holds", c);
-            call("told", c, 1 + c % 2);
-            call("get", c, 3, c % 3);
+        for (int i = 0; i < 3; i++) {
+            int c = random.nextInt(24);
+            look("holds", c);
+            look("told", c, 1 + i % 2);
+            look("get", c, 3, i);
+            look("of", t, 8 + random.nextInt(5));
+            look("acted", random.nextInt(6));
+            look("count", random.nextInt(6));
+            look("finding", random.nextInt(6), i);
+            look("said", random.nextInt(8));
+            look("traced", random.nextInt(8));
         }
-        for (int what = 0; what < 6; what++) {
-            call("acted", what);
-            call("count", what);
-            call("finding", what, what % 4);
-            call("said", what);
-            call("traced", what);
+    }
+
+    private void look(String name, Object... arguments) throws ReflectiveOperationException {
+        if (calls < CALLS) {
+            call(name, arguments);
         }
-        calls = before;
     }
 
     private void fillCases() throws ReflectiveOperationException {
@@ -156,7 +163,11 @@ public final class RandomRunsTest {
         }
     }
 
-    private Object[] argumentsOf(String name) {
+    private int formIn(Object c) throws ReflectiveOperationException {
+        return (Integer) OF_MODEL.get("holds").invoke(model, c);
+    }
+
+    private Object[] argumentsOf(String name) throws ReflectiveOperationException {
         Class<?>[] types = OF_PARK.get(name).getParameterTypes();
         Object[] arguments = new Object[types.length];
         for (int i = 0; i < types.length; i++) {
@@ -167,10 +178,10 @@ public final class RandomRunsTest {
             fillStep(arguments);
         }
         if ((name.equals("put") || name.equals("get") || name.equals("length")) && random.nextInt(8) > 0) {
-            arguments[1] = Math.max(0, park.holds((Integer) arguments[0]));
+            arguments[1] = Math.max(0, formIn(arguments[0]));
         }
         if ((name.equals("seconds") || name.equals("test")) && random.nextInt(8) > 0) {
-            arguments[1] = park.holds((Integer) arguments[0]) == 5 ? 5 : 6;
+            arguments[1] = formIn(arguments[0]) == 5 ? 5 : 6;
         }
         return arguments;
     }

@@ -152,8 +152,8 @@ public final class StoreTest {
         long[] given = {0, 1, 2, 3, -1, -2, 127, 128, 255, 256, 32767, 32768, 65535, 65536, 1L << 31, 1L << 32,
             Long.MAX_VALUE, Long.MIN_VALUE, 2139095040L, 2139095041L, 0x7f800001L, 0xff800000L, 0xffc00001L,
             0x7ff0000000000000L, 0x7ff0000000000001L, 0xfff0000000000000L, 0xfff0000000000001L};
-        WindPark park = new WindPark(1);
         for (int lane = 0; lane < 8; lane++) {
+            WindPark park = new WindPark(1);
             park.row(lane, lane, 2);
             for (long bits : given) {
                 Due.is(9, "put(.., " + lane + ", 1, " + bits + ")", park.put(lane, lane, 1, bits), 1);

@@ -2,7 +2,6 @@
 public final class TurbinesTest {
     private static final int WAITING = 0, STARTING = 1, MAKING = 2, STOPPING = 3, FAILED = 4;
     private static final int PITCH = 1, TORQUE = 2, TURNS = 3, ENERGY = 4, BOUND = 5, VOTE = 6, WIND = 7;
-    private static final int VANE_KIND = 1, DRIVE_KIND = 3, PITCH_KIND = 4, BLADE_KIND = 5;
     private static final long NO_NUMBER = 9221120237041090560L;
     private static final double INFINITE = Double.POSITIVE_INFINITY;
 
@@ -17,7 +16,6 @@ public final class TurbinesTest {
         coldVotesOfFailedAndBare();
         firstSteps();
         stepsByTheFormulas();
-        turnsAtTheEdges();
         statesGoRound();
         tooFast();
         boundedTorque();
@@ -36,43 +34,8 @@ public final class TurbinesTest {
         Due.end("TurbinesTest");
     }
 
-    private static long bits(double number) {
-        return Double.doubleToLongBits(number);
-    }
-
     private static double of(WindPark park, int t, int what) {
         return Double.longBitsToDouble(park.of(t, what));
-    }
-
-    private static void fit(WindPark park, int t, int slot, int kind) {
-        park.drop(9);
-        park.drop(8);
-        park.step(9, 10, t, 8, 0);
-        park.step(8, 0, 22, 0, 0);
-        park.step(8, 12, t, slot, 0);
-        park.part(22, kind);
-        Due.is(27, "a fitting of the test itself", park.act(9), 0);
-        park.clear(23);
-    }
-
-    private static void strip(WindPark park, int t, int slot) {
-        park.drop(9);
-        park.drop(8);
-        park.step(9, 10, t, 8, 0);
-        park.step(8, 13, t, slot, 0);
-        Due.is(27, "a stripping of the test itself", park.act(9), 0);
-    }
-
-    /** Turbines with one vane, a drive and a blade each, all reading the same. */
-    private static WindPark fitted(int turbines, double reading) {
-        WindPark park = new WindPark(turbines);
-        for (int t = 0; t < turbines; t++) {
-            fit(park, t, 0, VANE_KIND);
-            fit(park, t, 3, DRIVE_KIND);
-            fit(park, t, 4, BLADE_KIND);
-            park.read(t, 0, bits(reading));
-        }
-        return park;
     }
 
     private static void runUntil(WindPark park, int t, int state) {
@@ -116,21 +79,21 @@ public final class TurbinesTest {
     }
 
     private static void readingsRefused() {
-        WindPark park = fitted(1, 7.0);
-        Due.is(31, "turbine", park.read(1, 0, bits(5000.0)), WindPark.UNKNOWN);
+        WindPark park = Parks.fitted(1, 7.0);
+        Due.is(31, "turbine", park.read(1, 0, Parks.bits(5000.0)), WindPark.UNKNOWN);
         Due.is(31, "turbine", park.read(-1, 0, 0), WindPark.UNKNOWN);
-        Due.is(31, "sensor 3", park.read(0, 3, bits(5000.0)), WindPark.UNKNOWN);
+        Due.is(31, "sensor 3", park.read(0, 3, Parks.bits(5000.0)), WindPark.UNKNOWN);
         Due.is(31, "sensor -1", park.read(0, -1, 0), WindPark.UNKNOWN);
         double[] outside = {1000.0000000000001, -1000.0000000000001, INFINITE, -INFINITE, Double.MAX_VALUE};
         for (double reading : outside) {
-            Due.is(31, "read " + reading, park.read(0, 0, bits(reading)), WindPark.OUTSIDE);
+            Due.is(31, "read " + reading, park.read(0, 0, Parks.bits(reading)), WindPark.OUTSIDE);
             Due.is(31, "why", park.why(), WindPark.OUTSIDE);
         }
         park.run(1);
         Due.bits(31, "the old reading", park.of(0, VOTE), 7.0);
         double[] inside = {1000.0, -1000.0, 0.0, -0.0, Double.MIN_VALUE, -2.5e-310};
         for (double reading : inside) {
-            Due.is(31, "read " + reading, park.read(0, 0, bits(reading)), 1);
+            Due.is(31, "read " + reading, park.read(0, 0, Parks.bits(reading)), 1);
             park.run(1);
             Due.bits(31, "vote", park.of(0, VOTE), reading);
             Due.bits(31, "wind", park.of(0, WIND), reading);
@@ -151,12 +114,12 @@ public final class TurbinesTest {
         Due.is(33, "turbine", park.bound(-1, 0), WindPark.UNKNOWN);
         double[] outside = {-Double.MIN_VALUE, -1.0, -INFINITE, Double.NaN};
         for (double bound : outside) {
-            Due.is(33, "bound " + bound, park.bound(1, bits(bound)), WindPark.OUTSIDE);
+            Due.is(33, "bound " + bound, park.bound(1, Parks.bits(bound)), WindPark.OUTSIDE);
         }
         Due.bits(33, "the old bound", park.of(1, BOUND), 1000.0);
         double[] inside = {0.0, -0.0, Double.MIN_VALUE, 0.1, 123456789.0, Double.MAX_VALUE, INFINITE, Double.MIN_NORMAL};
         for (double bound : inside) {
-            Due.is(33, "bound " + bound, park.bound(1, bits(bound)), 1);
+            Due.is(33, "bound " + bound, park.bound(1, Parks.bits(bound)), 1);
             Due.bits(36, "bound", park.of(1, BOUND), bound);
         }
         Due.bits(33, "the other turbine's", park.of(0, BOUND), 1000.0);
@@ -196,8 +159,8 @@ public final class TurbinesTest {
         for (double[] row : readings) {
             WindPark park = new WindPark(1);
             for (int s = 0; s < 3; s++) {
-                fit(park, 0, s, s);
-                park.read(0, s, bits(row[s]));
+                Parks.fit(park, 0, s, s);
+                park.read(0, s, Parks.bits(row[s]));
             }
             park.run(1);
             Due.bits(34, "vote", park.of(0, VOTE), row[3]);
@@ -207,9 +170,9 @@ public final class TurbinesTest {
             WindPark park = new WindPark(1);
             for (int s = 0; s < 3; s++) {
                 if (s != bare) {
-                    fit(park, 0, s, 0);
+                    Parks.fit(park, 0, s, 0);
                 }
-                park.read(0, s, bits(s + 1.0));
+                park.read(0, s, Parks.bits(s + 1.0));
             }
             park.run(1);
             Due.bits(34, "without a bare slot", park.of(0, VOTE), bare == 0 ? 2.0 : 1.0);
@@ -218,9 +181,9 @@ public final class TurbinesTest {
 
     private static void coldVotes() {
         WindPark park = new WindPark(1);
-        fit(park, 0, 0, VANE_KIND);
+        Parks.fit(park, 0, 0, Parks.VANE);
         park.wind(0, true);
-        park.read(0, 0, bits(2.0));
+        park.read(0, 0, Parks.bits(2.0));
         park.run(1);
         Due.bits(34, "there were no two steps", park.of(0, VOTE), 2.0);
         park.run(1);
@@ -231,26 +194,26 @@ public final class TurbinesTest {
         park.run(1);
         Due.bits(34, "not cold", park.of(0, VOTE), 2.0);
         park.wind(0, true);
-        park.read(0, 0, bits(3.0));
+        park.read(0, 0, Parks.bits(3.0));
         park.run(1);
         Due.bits(34, "other in both", park.of(0, VOTE), 3.0);
         park.run(1);
         Due.bits(34, "other in one", park.of(0, VOTE), 3.0);
         park.run(1);
         Due.is(34, "other in none", park.of(0, VOTE), NO_NUMBER);
-        park.read(0, 0, bits(2.0));
-        park.read(0, 0, bits(3.0));
+        park.read(0, 0, Parks.bits(2.0));
+        park.read(0, 0, Parks.bits(3.0));
         park.run(1);
         Due.is(34, "it is the step that counts", park.of(0, VOTE), NO_NUMBER);
-        park.read(0, 0, bits(0.0));
+        park.read(0, 0, Parks.bits(0.0));
         park.run(3);
         Due.is(34, "0.0", park.of(0, VOTE), NO_NUMBER);
-        park.read(0, 0, bits(-0.0));
+        park.read(0, 0, Parks.bits(-0.0));
         park.run(1);
         Due.bits(34, "-0.0 has other bits", park.of(0, VOTE), -0.0);
         park.read(0, 0, -1L);
         park.run(1);
-        park.read(0, 0, bits(-0.0));
+        park.read(0, 0, Parks.bits(-0.0));
         park.run(1);
         Due.bits(34, "no number in one", park.of(0, VOTE), -0.0);
         park.run(1);
@@ -261,26 +224,26 @@ public final class TurbinesTest {
 
     private static void coldVotesOfFailedAndBare() {
         WindPark park = new WindPark(1);
-        fit(park, 0, 0, VANE_KIND);
+        Parks.fit(park, 0, 0, Parks.VANE);
         park.wind(0, true);
-        park.read(0, 0, bits(9.0));
+        park.read(0, 0, Parks.bits(9.0));
         Due.is(34, "fails", park.run(1), 1);
-        park.read(0, 0, bits(2.0));
+        park.read(0, 0, Parks.bits(2.0));
         park.run(2);
         Due.bits(34, "of a failed one as it was", park.of(0, VOTE), 9.0);
         park.reset(0);
         park.run(1);
         Due.is(34, "steps of a failed turbine count", park.of(0, VOTE), NO_NUMBER);
-        strip(park, 0, 0);
-        park.read(0, 0, bits(3.0));
+        Parks.strip(park, 0, 0);
+        park.read(0, 0, Parks.bits(3.0));
         park.run(2);
-        fit(park, 0, 0, VANE_KIND);
+        Parks.fit(park, 0, 0, Parks.VANE);
         park.run(1);
         Due.is(34, "steps of a bare slot count", park.of(0, VOTE), NO_NUMBER);
     }
 
     private static void firstSteps() {
-        WindPark park = fitted(1, 12.0);
+        WindPark park = Parks.fitted(1, 12.0);
         double pitch = 90.0;
         double turns = 0.0;
         for (int i = 1; i <= 13; i++) {
@@ -306,19 +269,25 @@ public final class TurbinesTest {
         Due.bits(34, "the next energy", park.of(0, ENERGY), was[2] + torque * turns);
     }
 
+    private static final double[][] SPELLS = {{9.0, 1000.0}, {12.0, 1000.0}, {12.0, 30.0}, {17.5, 60.0}, {25.0, 1000.0}, {31.0, 8.0},
+        {Double.NaN, 20.0}, {14.0, 14.5}, {-2.0, 14.5}, {60.0, 500.0}, {Double.NaN, 1000.0}, {9.25, 1.0e-300}};
+    private static final int SPELL = 40;
+
     /** Readings and bounds that bring a turbine through all states but FAILED; each step is reckoned anew. */
     private static void stepsByTheFormulas() {
-        double no = Double.NaN;
-        double[][] spells = {{9.0, 1000.0}, {12.0, 1000.0}, {12.0, 30.0}, {17.5, 60.0}, {25.0, 1000.0}, {31.0, 8.0}, {no, 20.0},
-            {14.0, 14.5}, {-2.0, 14.5}, {60.0, 500.0}, {no, 1000.0}, {9.25, 1.0e-300}};
-        WindPark park = fitted(1, 0.0);
+        double[] reckoned = {WAITING, 90.0, 0.0, 0.0, 0.0};
         int[] seen = new int[5];
-        for (double[] spell : spells) {
-            park.read(0, 0, bits(spell[0]));
-            park.bound(0, bits(spell[1]));
-            for (int i = 0; i < 45; i++) {
-                stepByTheFormulas(park, spell[0], spell[1]);
+        for (int spell = 0; spell < SPELLS.length; spell++) {
+            WindPark park = behindSpells(spell);
+            beginSpell(park, spell);
+            for (int i = 0; i < SPELL; i++) {
+                stepByTheFormulas(reckoned, SPELLS[spell][0], SPELLS[spell][1]);
+                park.run(1);
                 seen[(int) park.of(0, 0)]++;
+                Due.is(34, "state by the formulas", park.of(0, 0), (long) reckoned[0]);
+                for (int what = PITCH; what <= ENERGY; what++) {
+                    Due.bits(34, "figure " + what + " by the formulas", park.of(0, what), reckoned[what]);
+                }
             }
         }
         for (int state = WAITING; state <= STOPPING; state++) {
@@ -327,13 +296,27 @@ public final class TurbinesTest {
         Due.is(34, "and not FAILED", seen[FAILED], 0);
     }
 
-    private static void stepByTheFormulas(WindPark park, double vote, double bound) {
-        double pitch = of(park, 0, PITCH);
-        double torque = of(park, 0, TORQUE);
-        double turns = of(park, 0, TURNS);
-        double energy = of(park, 0, ENERGY);
-        int state = stateAfter((int) park.of(0, 0), vote, turns, bound);
-        park.run(1);
+    private static void beginSpell(WindPark park, int spell) {
+        park.read(0, 0, Parks.bits(SPELLS[spell][0]));
+        park.bound(0, Parks.bits(SPELLS[spell][1]));
+    }
+
+    /** Each spell has a park of its own, for one park would be used for too many calls. */
+    private static WindPark behindSpells(int spells) {
+        WindPark park = Parks.fitted(1, 0.0);
+        for (int spell = 0; spell < spells; spell++) {
+            beginSpell(park, spell);
+            park.run(SPELL);
+        }
+        return park;
+    }
+
+    /** Of what is reckoned: STATE, PITCH, TORQUE, TURNS, ENERGY. */
+    private static void stepByTheFormulas(double[] reckoned, double vote, double bound) {
+        double pitch = reckoned[PITCH];
+        double torque = reckoned[TORQUE];
+        double turns = reckoned[TURNS];
+        int state = stateAfter((int) reckoned[0], vote, turns, bound);
         double goal = state == STARTING ? 20.0 : state == MAKING ? Math.max(0.0, (turns - 10.0) * 8.0) : 90.0;
         double rate = state == STOPPING ? 12.0 : 6.0;
         pitch = pitch + Math.max(-rate, Math.min(rate, goal - pitch));
@@ -343,11 +326,8 @@ public final class TurbinesTest {
         if (torque * turns > bound) {
             torque = bound / turns;
         }
-        Due.is(34, "state by the formulas", park.of(0, 0), state);
-        Due.bits(34, "pitch by the formulas", park.of(0, PITCH), pitch);
-        Due.bits(34, "torque by the formulas", park.of(0, TORQUE), torque);
-        Due.bits(34, "turns by the formulas", park.of(0, TURNS), turns);
-        Due.bits(34, "energy by the formulas", park.of(0, ENERGY), energy + torque * turns);
+        double[] next = {state, pitch, torque, turns, reckoned[ENERGY] + torque * turns};
+        System.arraycopy(next, 0, reckoned, 0, next.length);
     }
 
     private static int stateAfter(int state, double vote, double turns, double bound) {
@@ -364,59 +344,15 @@ public final class TurbinesTest {
         return turns >= 6.0 ? MAKING : state;
     }
 
-    private static void turnsAtTheEdges() {
-        Due.is(34, "6.0 turns", stateBehind(reading(6.0, false), false), MAKING);
-        Due.is(34, "less", stateBehind(reading(Math.nextDown(6.0), false), false), STARTING);
-        Due.is(34, "16.0 turns", stateBehind(reading(16.0, false), false), MAKING);
-        Due.is(34, "more", stateBehind(reading(Math.nextUp(16.0), false), false), STOPPING);
-        Due.is(34, "0.5 turns", stateBehind(reading(0.5, true), true), STOPPING);
-        Due.is(34, "less", stateBehind(Math.nextDown(reading(0.5, true)) - 1.0e-12, true), WAITING);
-    }
-
-    /** A turbine that has started for six steps with 4.0 and one with a reading; then, if so told, was stopped for one. */
-    private static WindPark started(double reading, boolean stopped) {
-        WindPark park = fitted(1, 4.0);
-        park.run(6);
-        park.read(0, 0, bits(reading));
-        park.run(1);
-        if (stopped) {
-            park.read(0, 0, -1L);
-            park.run(1);
-        }
-        return park;
-    }
-
-    private static long stateBehind(double reading, boolean stopped) {
-        WindPark park = started(reading, stopped);
-        park.run(1);
-        return park.of(0, 0);
-    }
-
-    /** The reading with which a turbine comes to have just so many turns. */
-    private static double reading(double turns, boolean stopped) {
-        double low = -100.0;
-        double high = 900.0;
-        for (int i = 0; i < 200 && of(started(high, stopped), 0, TURNS) != turns; i++) {
-            double middle = (low + high) / 2.0;
-            if (of(started(middle, stopped), 0, TURNS) < turns) {
-                low = middle;
-            } else {
-                high = middle;
-            }
-        }
-        Due.bits(34, "the turns that the test looks for", bits(of(started(high, stopped), 0, TURNS)), turns);
-        return high;
-    }
-
     private static void statesGoRound() {
-        WindPark park = fitted(1, 3.9999999999999996);
+        WindPark park = Parks.fitted(1, 3.9999999999999996);
         park.run(5);
         Due.is(34, "too little wind", park.of(0, 0), WAITING);
-        park.read(0, 0, bits(4.0));
-        park.bound(0, bits(0.0));
+        park.read(0, 0, Parks.bits(4.0));
+        park.bound(0, Parks.bits(0.0));
         park.run(1);
         Due.is(34, "no bound", park.of(0, 0), WAITING);
-        park.bound(0, bits(Double.MIN_VALUE));
+        park.bound(0, Parks.bits(Double.MIN_VALUE));
         park.run(1);
         Due.is(34, "4.0", park.of(0, 0), STARTING);
         park.read(0, 0, -1L);
@@ -424,8 +360,8 @@ public final class TurbinesTest {
         Due.is(34, "blind", park.of(0, 0), STOPPING);
         park.run(1);
         Due.is(34, "slow", park.of(0, 0), WAITING);
-        park.bound(0, bits(1000.0));
-        park.read(0, 0, bits(11.0));
+        park.bound(0, Parks.bits(1000.0));
+        park.read(0, 0, Parks.bits(11.0));
         double before = 0.0;
         park.run(1);
         for (int i = 0; i < 100 && park.of(0, 0) == STARTING; i++) {
@@ -442,13 +378,16 @@ public final class TurbinesTest {
         Due.is(34, "blind", park.of(0, 0), STOPPING);
         Due.bits(34, "half the torque", park.of(0, TORQUE), torque / 2.0);
         Due.bits(34, "quick blades", park.of(0, PITCH), pitch + 12.0);
-        runUntil(park, 0, WAITING);
+        for (int i = 0; i < 20 && park.of(0, 0) != WAITING; i++) {
+            park.run(40);
+        }
+        Due.is(34, "waiting", park.of(0, 0), WAITING);
         Due.bits(34, "blades home", park.of(0, PITCH), 90.0);
         Due.is(34, "no findings", park.count(4), 0);
     }
 
     private static void tooFast() {
-        WindPark park = fitted(1, 900.0);
+        WindPark park = Parks.fitted(1, 900.0);
         double before = 0.0;
         park.run(1);
         for (int i = 0; i < 40 && park.of(0, 0) != STOPPING; i++) {
@@ -457,7 +396,7 @@ public final class TurbinesTest {
         }
         Due.is(34, "stopping", park.of(0, 0), STOPPING);
         Due.is(34, "above 16.0", before > 16.0 ? 1 : 0, 1);
-        park = fitted(1, 25.0);
+        park = Parks.fitted(1, 25.0);
         runUntil(park, 0, MAKING);
         for (int i = 0; i < 20 && of(park, 0, TURNS) <= 10.0; i++) {
             park.run(1);
@@ -470,56 +409,53 @@ public final class TurbinesTest {
     }
 
     private static void boundedTorque() {
-        WindPark park = fitted(1, 12.0);
+        WindPark park = Parks.fitted(1, 12.0);
         runUntil(park, 0, MAKING);
         double energy = of(park, 0, ENERGY);
-        park.bound(0, bits(1.0));
+        park.bound(0, Parks.bits(1.0));
         park.run(1);
         double turns = of(park, 0, TURNS);
         double torque = 1.0 / turns;
         Due.bits(34, "torque by the bound", park.of(0, TORQUE), torque);
         Due.bits(34, "energy", park.of(0, ENERGY), energy + torque * turns);
-        park.bound(0, bits(-0.0));
+        park.bound(0, Parks.bits(-0.0));
         park.run(1);
         Due.bits(34, "a bound of -0.0", park.of(0, TORQUE), -0.0);
-        park.bound(0, bits(INFINITE));
+        park.bound(0, Parks.bits(INFINITE));
         park.run(1);
         Due.bits(34, "no bound", park.of(0, TORQUE), 0.5);
     }
 
     private static void boundsAtTheEdges() {
-        WindPark park = fitted(1, 12.0);
-        park.bound(0, bits(-0.0));
+        WindPark park = Parks.fitted(1, 12.0);
+        park.bound(0, Parks.bits(-0.0));
         park.run(1);
         Due.is(34, "-0.0 is not above 0.0", park.of(0, 0), WAITING);
-        park.bound(0, bits(INFINITE));
+        park.bound(0, Parks.bits(INFINITE));
         park.run(1);
         Due.is(34, "infinity is", park.of(0, 0), STARTING);
-        park = fitted(1, 12.0);
-        runUntil(park, 0, MAKING);
-        park.read(0, 0, -1L);
-        park.run(40);
-        for (int i = 0; i < 30; i++) {
-            park.run(40);
-        }
-        Due.bits(34, "torque halved to nothing", park.of(0, TORQUE), 0.0);
-        park = fitted(1, 12.0);
-        runUntil(park, 0, MAKING);
-        double torque = of(park, 0, TORQUE);
-        park.read(0, 0, -1L);
-        for (int i = 1; i < 1080; i++) {
-            park.run(1);
-            torque = torque / 2.0;
-            Due.bits(34, "torque halved " + i + " times", park.of(0, TORQUE), torque);
+        int[] halvings = {1, 2, 40, 1022, 1023, 1040, 1060, 1072, 1073, 1074, 1075, 1076, 1080, 1200};
+        for (int n : halvings) {
+            park = Parks.fitted(1, 12.0);
+            runUntil(park, 0, MAKING);
+            double torque = of(park, 0, TORQUE);
+            park.read(0, 0, -1L);
+            for (int left = n; left > 0; left -= 40) {
+                park.run(Math.min(40, left));
+            }
+            for (int i = 0; i < n; i++) {
+                torque = torque / 2.0;
+            }
+            Due.bits(34, "torque halved " + n + " times", park.of(0, TORQUE), torque);
         }
     }
 
     private static void wearOfParts() {
         WindPark park = new WindPark(1);
-        fit(park, 0, 0, VANE_KIND);
-        fit(park, 0, 3, PITCH_KIND);
-        fit(park, 0, 4, BLADE_KIND);
-        park.read(0, 0, bits(8.75));
+        Parks.fit(park, 0, 0, Parks.VANE);
+        Parks.fit(park, 0, 3, Parks.PITCH);
+        Parks.fit(park, 0, 4, Parks.BLADE);
+        park.read(0, 0, Parks.bits(8.75));
         park.run(1);
         int[] bodies = {33, 32, 15, 14, WindPark.NONE};
         for (int i = 0; i < bodies.length; i++) {
@@ -535,7 +471,7 @@ public final class TurbinesTest {
         runUntil(park, 0, MAKING);
         Due.is(34, "the blade is asked", wear(park, 4), 8);
         park.forget();
-        park.read(0, 0, bits(1000.0));
+        park.read(0, 0, Parks.bits(1000.0));
         park.run(1);
         Due.is(34, "by 1000", wear(park, 4), 1008);
         Due.is(34, "its body, behind the drive's four", park.traced(4), 31);
@@ -543,26 +479,21 @@ public final class TurbinesTest {
 
     /** The WEAR of what is in a SLOT, which is taken out and fitted again. */
     private static long wear(WindPark park, int slot) {
-        strip(park, 0, slot);
+        Parks.strip(park, 0, slot);
         long wear = park.told(23, 2);
-        park.drop(9);
-        park.drop(8);
-        park.step(9, 10, 0, 8, 0);
-        park.step(8, 0, 23, 0, 0);
-        park.step(8, 12, 0, slot, 0);
-        Due.is(27, "a fitting of the test itself", park.act(9), 0);
+        Parks.fitAgain(park, 0, slot, 23);
         return wear;
     }
 
     private static void windAgainst() {
-        WindPark park = fitted(1, 12.0);
+        WindPark park = Parks.fitted(1, 12.0);
         runUntil(park, 0, MAKING);
         long wear = wear(park, 4);
-        park.read(0, 0, bits(-3.5));
+        park.read(0, 0, Parks.bits(-3.5));
         park.run(1);
         Due.is(34, "making", park.of(0, 0), MAKING);
         Due.is(34, "a load below 0", wear(park, 4), wear - 3);
-        park.read(0, 0, bits(-1000.0));
+        park.read(0, 0, Parks.bits(-1000.0));
         park.run(1);
         Due.bits(34, "turns are not below 0.0", park.of(0, TURNS), 0.0);
         park.run(1);
@@ -571,8 +502,8 @@ public final class TurbinesTest {
 
     private static void failures() {
         WindPark park = new WindPark(2);
-        fit(park, 1, 0, VANE_KIND);
-        park.read(1, 0, bits(5.0));
+        Parks.fit(park, 1, 0, Parks.VANE);
+        park.read(1, 0, Parks.bits(5.0));
         Due.is(34, "a finding", park.run(1), 1);
         finding(park, 0, 1, 3, 1, 1);
         Due.is(34, "failed", park.of(1, 0), FAILED);
@@ -585,15 +516,15 @@ public final class TurbinesTest {
         finding(park, 1, 1, 3, 1, 2);
 
         park = new WindPark(1);
-        fit(park, 0, 3, PITCH_KIND);
-        fit(park, 0, 0, VANE_KIND);
-        park.read(0, 0, bits(5.0));
+        Parks.fit(park, 0, 3, Parks.PITCH);
+        Parks.fit(park, 0, 0, Parks.VANE);
+        park.read(0, 0, Parks.bits(5.0));
         Due.is(34, "serial 0", park.run(2), 1);
         finding(park, 0, 0, 3, 6, 1);
         Due.is(34, "bodies that began", park.count(5), 4);
 
-        park = fitted(1, 12.0);
-        strip(park, 0, 4);
+        park = Parks.fitted(1, 12.0);
+        Parks.strip(park, 0, 4);
         int came = 0;
         for (int i = 0; i < 40 && came == 0; i++) {
             came = park.run(1);
@@ -613,20 +544,22 @@ public final class TurbinesTest {
     }
 
     private static void failedTurbines() {
-        WindPark park = fitted(1, 12.0);
+        WindPark park = Parks.fitted(1, 12.0);
         runUntil(park, 0, MAKING);
         park.run(3);
-        strip(park, 0, 4);
+        Parks.strip(park, 0, 4);
         Due.is(34, "fails", park.run(1), 1);
         double turns = of(park, 0, TURNS);
         long[] was = new long[8];
         for (int what = 0; what < 8; what++) {
             was[what] = park.of(0, what);
         }
-        park.read(0, 0, bits(9.0));
-        for (int i = 0; i < 1100; i++) {
-            Due.is(34, "no more", park.run(1), 0);
-            turns = turns * 0.5;
+        park.read(0, 0, Parks.bits(9.0));
+        for (int i = 0; i < 30; i++) {
+            Due.is(34, "no more", park.run(40), 0);
+            for (int step = 0; step < 40; step++) {
+                turns = turns * 0.5;
+            }
             Due.bits(34, "turns halved", park.of(0, TURNS), turns);
         }
         for (int what = 0; what < 8; what++) {
@@ -637,8 +570,8 @@ public final class TurbinesTest {
     private static void findingsKept() {
         WindPark park = new WindPark(6);
         for (int t = 0; t < 6; t++) {
-            fit(park, t, 0, VANE_KIND);
-            park.read(t, 0, bits(5.0));
+            Parks.fit(park, t, 0, Parks.VANE);
+            park.read(t, 0, Parks.bits(5.0));
         }
         for (int i = 0; i < 7; i++) {
             Due.is(34, "six come", park.run(1), 6);
@@ -656,13 +589,13 @@ public final class TurbinesTest {
 
     /** Turbine 0 made to MAKE at its place; the WIND that turbine 1 has there, its own reading 10.0. */
     private static double windBehind(int direction, int[] first, int[] second) {
-        WindPark park = fitted(2, 12.0);
-        park.read(1, 0, bits(1.0));
+        WindPark park = Parks.fitted(2, 12.0);
+        park.read(1, 0, Parks.bits(1.0));
         park.wind(direction, false);
         park.place(0, first[0], first[1]);
         park.place(1, second[0], second[1]);
         runUntil(park, 0, MAKING);
-        park.read(1, 0, bits(10.0));
+        park.read(1, 0, Parks.bits(10.0));
         park.run(1);
         Due.is(34, "still making", park.of(0, 0), MAKING);
         return of(park, 1, WIND);
@@ -682,8 +615,8 @@ public final class TurbinesTest {
             int[] here = {2, -1};
             int[] behind = {2 + 5 * dx, -1 + 5 * dy};
             int p = 5 * (dx * dx + dy * dy);
-            Due.bits(34, "behind, direction " + direction, bits(windBehind(direction, here, behind)), lessened(p));
-            Due.bits(34, "ahead, direction " + direction, bits(windBehind(direction, behind, here)), 10.0);
+            Due.bits(34, "behind, direction " + direction, Parks.bits(windBehind(direction, here, behind)), lessened(p));
+            Due.bits(34, "ahead, direction " + direction, Parks.bits(windBehind(direction, behind, here)), 10.0);
         }
         int[] first = {0, 0};
         int[][] places = {{1, 0}, {1, 3}, {1, 4}, {1, -3}, {1, -4}, {3, 3}, {3, 4}, {4, 4}, {4, 5}, {7, 4}, {7, 5}, {8, 5},
@@ -691,16 +624,16 @@ public final class TurbinesTest {
         for (int[] second : places) {
             int p = second[0];
             boolean within = p > 0 && Math.abs(second[1]) <= 3 + p / 4;
-            Due.bits(34, "at " + p + ", " + second[1], bits(windBehind(0, first, second)), within ? lessened(p) : 10.0);
+            Due.bits(34, "at " + p + ", " + second[1], Parks.bits(windBehind(0, first, second)), within ? lessened(p) : 10.0);
         }
     }
 
     private static void wakesAddUp() {
-        WindPark park = fitted(6, 14.0);
+        WindPark park = Parks.fitted(6, 14.0);
         for (int t = 0; t < 6; t++) {
             park.place(t, t == 5 ? 3 : t % 2, 0);
         }
-        park.read(5, 0, bits(1.0));
+        park.read(5, 0, Parks.bits(1.0));
         park.run(40);
         int making = 0;
         double sum = 0.0;
@@ -719,7 +652,7 @@ public final class TurbinesTest {
         for (int t = 0; t < 5; t++) {
             states[t] = park.of(t, 0);
         }
-        park.read(5, 0, bits(8.0));
+        park.read(5, 0, Parks.bits(8.0));
         park.run(1);
         for (int t = 0; t < 5; t++) {
             Due.is(34, "the same states", park.of(t, 0), states[t]);
@@ -728,14 +661,14 @@ public final class TurbinesTest {
     }
 
     private static void wakesTakeAllWind() {
-        WindPark park = fitted(6, 12.0);
-        park.read(5, 0, bits(1.0));
+        WindPark park = Parks.fitted(6, 12.0);
+        park.read(5, 0, Parks.bits(1.0));
         park.place(5, 1, 0);
         runUntil(park, 4, MAKING);
-        park.read(5, 0, bits(7.0));
+        park.read(5, 0, Parks.bits(7.0));
         park.run(1);
         Due.bits(34, "wakes of five", park.of(5, WIND), 0.0);
-        park.read(5, 0, bits(-7.0));
+        park.read(5, 0, Parks.bits(-7.0));
         park.run(1);
         Due.bits(34, "wakes of five, the wind against", park.of(5, WIND), -0.0);
         park.place(4, 1, 9);
@@ -749,8 +682,8 @@ public final class TurbinesTest {
         WindPark park = new WindPark(4);
         int[] x = {5, -5, 5, -6};
         for (int t = 0; t < 4; t++) {
-            fit(park, t, 0, VANE_KIND);
-            park.read(t, 0, bits(5.0));
+            Parks.fit(park, t, 0, Parks.VANE);
+            park.read(t, 0, Parks.bits(5.0));
             park.place(t, x[t], 9 * t);
         }
         Due.is(34, "all fail", park.run(1), 4);
@@ -799,8 +732,8 @@ public final class TurbinesTest {
         Due.is(38, "a failure", park.why(), -11);
         park.holds(0);
         Due.is(38, "NONE is no refusal", park.why(), 0);
-        fit(park, 0, 0, VANE_KIND);
-        park.read(0, 0, bits(5.0));
+        Parks.fit(park, 0, 0, Parks.VANE);
+        park.read(0, 0, Parks.bits(5.0));
         Due.is(38, "a finding", park.run(1), 1);
         Due.is(38, "is no failure of the call", park.why(), 0);
         String[] calls = {"traced", "forget", "said", "acted", "finding", "of", "told"};
