@@ -42,11 +42,14 @@ public final class ActsEdgesTest {
         spentIsNeverMet();
         spentInTheFinalPlan();
         handGoesBackTheLastFirst();
+        takenAgainGoesBackThere();
+        handIsOfOneAct();
         handGoesToTheLeastEmpty();
         handIsGoneIfNoneIsEmpty();
         all24CasesOnTheHand();
         failuresUndoCases();
         failuresUndoItems();
+        failuresUndoTheirOwnWritesAlone();
         failuresUndoSlots();
         failuresLeaveTheLog();
         actedBeforeAndOfTheLatest();
@@ -178,6 +181,9 @@ public final class ActsEdgesTest {
         Plans.said(park, "last", 0, 5, 6, 5, 0, -7);
         Plans.act(park, "the next act begins with 0", 0, 0);
         Due.is(29, "last", park.said(0), 0);
+        park = Plans.with(1, "DO 5, TRY 1 0 2, LAST", "FINALLY 3 4", "", "ANSWER 5", "FAIL 1", "ANSWER 8");
+        Plans.act(park, "an answer that was put aside", 0, 0);
+        Plans.said(park, "is not LAST", 8);
     }
 
     /** "0 TAKE a: what CASE a holds comes on the HAND, the CASE is EMPTY; NOTHING, if it was." */
@@ -492,16 +498,16 @@ public final class ActsEdgesTest {
             park.part(0, kind);
             Plans.act(park, "in stead of another", 0, 0);
             Plans.acted(park, "it goes back", 0, 3, 2, 0, 0, 1);
-            Due.is(20, "to case 23", park.told(23, 1), 0);
+            Due.is(20, "to case 23", Parks.serialIn(park, 23), 0);
             Due.is(39, "there alone", park.count(2), 1);
             Due.is(36, "the new one", park.of(0, 8 + slot), 1);
             park.part(0, kind);
             Plans.act(park, "one comes, not two", 2, NOTHING);
             Due.is(36, "undone", park.of(0, 8 + slot), 1);
-            Due.is(20, "undone", park.told(0, 1), 2);
+            Due.is(20, "undone", Parks.serialIn(park, 0), 2);
             Plans.act(park, "case 23 holds something", 0, 0);
-            Due.is(20, "the least empty one", park.told(0, 1), 1);
-            Due.is(20, "case 23 as it was", park.told(23, 1), 0);
+            Due.is(20, "the least empty one", Parks.serialIn(park, 0), 1);
+            Due.is(20, "case 23 as it was", Parks.serialIn(park, 23), 0);
         }
         WindPark park = Plans.with(1, "TAKE 0, TAKE 1, FIT 0 0, LAY 5");
         park.row(0, 0, 1);
@@ -643,6 +649,12 @@ public final class ActsEdgesTest {
             Plans.acted(park, "spent within " + step, 0, 100, 3, 92, 0, 0);
             Due.is(29, "the other plan was not done", park.said(59), 1);
         }
+        String[] beforeAnEmptyOne = {"TRY 1 0 9", "TRY 1 8 9", "FINALLY 1 9"};
+        for (String step : beforeAnEmptyOne) {
+            WindPark park = Plans.with(1, step, Plans.times(16, "DO 2"), Plans.times(15, "SAY 1"));
+            Plans.act(park, "spent within " + step + ", which is empty", 0, SPENT);
+            Plans.acted(park, "spent within " + step, 0, 100, 3, 92, 0, 0);
+        }
     }
 
     /** A FAILURE of b by SPENT, too, puts aside what a ended with; at a's 100th STEP an empty b still comes to its end. */
@@ -680,6 +692,32 @@ public final class ActsEdgesTest {
         int[] due = {1, 0, NONE, NONE, NONE, 2, NONE, NONE, 3, NONE};
         for (int c = 0; c < due.length; c++) {
             Due.is(27, "case " + c, park.holds(c), due[c]);
+        }
+    }
+
+    /** "each with the CASE that it was taken from": the latest one. */
+    private static void takenAgainGoesBackThere() {
+        WindPark park = Plans.with(1, "TAKE 3, LAY 9, TAKE 9", "TAKE 9, FIT 0 0, STRIP 0 0");
+        park.part(3, 0);
+        Plans.act(park, "laid and taken again", 0, 0);
+        Plans.acted(park, "laid and taken again", 0, 3, 1, 0, 0, 1);
+        Due.is(27, "case 3", park.holds(3), NONE);
+        Due.is(27, "case 9", park.holds(9), 10);
+        Plans.act(park, "fitted and stripped again", 1, 0);
+        Due.is(27, "case 9", park.holds(9), NONE);
+        Due.is(27, "case 23", park.holds(23), 10);
+    }
+
+    /** "It has a HAND": nothing of another ACT is on it, however that ended. */
+    private static void handIsOfOneAct() {
+        WindPark park = Plans.with(1, "TAKE 3", "TAKE 3, ANSWER 1", "TAKE 3, FAIL 1", "LAY 9");
+        park.part(3, 0);
+        int[] due = {0, 1, NOTHING};
+        for (int plan = 0; plan < 3; plan++) {
+            Plans.act(park, "with a hand", plan, due[plan]);
+            Due.is(27, "back", park.holds(3), 10);
+            Plans.act(park, "no hand", 3, NOTHING);
+            Due.is(27, "nothing laid", park.holds(9), NONE);
         }
     }
 
@@ -721,7 +759,7 @@ public final class ActsEdgesTest {
                 Due.is(36, "bare", park.of(0, 8 + slot), NONE);
             }
             for (int c = 0; c < empty; c++) {
-                Due.is(20, "the last first", park.told(c, 1), 2 - c);
+                Due.is(20, "the last first", Parks.serialIn(park, c), 2 - c);
             }
         }
     }
@@ -742,7 +780,7 @@ public final class ActsEdgesTest {
         Plans.act(park, "all, undone", 3, NOTHING);
         Plans.acted(park, "all, undone", 0, 27, 2, 0, 0, 0);
         for (int c = 0; c < 24; c++) {
-            Due.is(27, "case " + c, park.told(c, 1), c);
+            Due.is(27, "case " + c, Parks.serialIn(park, c), c);
         }
     }
 
@@ -805,6 +843,39 @@ public final class ActsEdgesTest {
         Due.is(27, "item 16", park.get(0, 3, 16), 116);
     }
 
+    /** "as ahead of it": what an ACT before wrote stays, and each item that this one wrote is brought back. */
+    private static void failuresUndoTheirOwnWritesAlone() {
+        for (int writes = 1; writes <= 3; writes++) {
+            StringBuilder steps = new StringBuilder();
+            for (int i = 0; i < writes; i++) {
+                steps.append("WRITE 0 ").append(i).append(" 9, ");
+            }
+            WindPark park = Plans.with(1, "WRITE 0 0 5, WRITE 0 1 6, WRITE 0 3 7", steps + "FAIL 1", steps + "DO 1");
+            park.row(0, 3, 4);
+            int[] first = {0, 0, 0, 0};
+            items(park, first);
+            Plans.act(park, "nothing is written yet", 1, NOTHING);
+            items(park, first);
+            Plans.act(park, "written", 0, 0);
+            int[] second = {5, 6, 0, 7};
+            items(park, second);
+            Plans.act(park, "fails", 1, NOTHING);
+            items(park, second);
+            Plans.act(park, "fails within", 2, NOTHING);
+            items(park, second);
+            park.put(0, 3, 0, 8);
+            Plans.act(park, "fails again", 1, NOTHING);
+            second[0] = 8;
+            items(park, second);
+        }
+    }
+
+    private static void items(WindPark park, int... due) {
+        for (int i = 0; i < due.length; i++) {
+            Due.is(27, "item " + i, park.get(0, 3, i), due[i]);
+        }
+    }
+
     /** "SLOTS are as ahead of it". */
     private static void failuresUndoSlots() {
         for (int t = 0; t < 6; t += 5) {
@@ -823,8 +894,8 @@ public final class ActsEdgesTest {
             for (int slot = 0; slot < 5; slot++) {
                 Due.is(36, "slot " + slot + " of turbine " + t, park.of(t, 8 + slot), serials[slot]);
             }
-            Due.is(20, "case 0", park.told(0, 1), 4);
-            Due.is(20, "case 1", park.told(1, 1), 5);
+            Due.is(20, "case 0", Parks.serialIn(park, 0), 4);
+            Due.is(20, "case 1", Parks.serialIn(park, 1), 5);
             Due.is(27, "case 9", park.holds(9), NONE);
             Due.is(39, "no others", park.count(2), 2);
         }

@@ -35,6 +35,11 @@ final class Parks {
         Due.is(27, "a stripping of the test itself", park.act(9), 0);
     }
 
+    /** The SERIAL of the PART that a CASE holds; NONE. */
+    static long serialIn(WindPark park, int c) {
+        return park.holds(c) == 10 ? park.told(c, 1) : WindPark.NONE;
+    }
+
     /** Turbines with one vane, a drive and a blade each, all reading the same. */
     static WindPark fitted(int turbines, double reading) {
         WindPark park = new WindPark(turbines);

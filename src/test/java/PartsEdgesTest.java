@@ -31,6 +31,7 @@ public final class PartsEdgesTest {
         quotientOfLongs();
         middleOnes();
         howManyAreMeasured();
+        rowsAreAsTheyWere();
         testsAsTheLanguageHasThem();
         testsDenied();
         itemsOfTests();
@@ -469,6 +470,20 @@ public final class PartsEdgesTest {
     private static void measured(WindPark park, int lane, int due) {
         Due.is(23, "measured", park.seconds(0, lane, 5), due);
         Due.is(23, "why", park.why(), 0);
+    }
+
+    /** What is told of a ROW leaves its items in their order. */
+    private static void rowsAreAsTheyWere() {
+        double[] items = {3.0, Double.NaN, -1.0, 2.0, -0.0, 0.0};
+        WindPark park = rows(items);
+        for (int what = 0; what < 6; what++) {
+            park.seconds(5, 5, what);
+            park.seconds(6, 6, what);
+            for (int i = 0; i < items.length; i++) {
+                Due.bits(23, "item " + i, park.get(6, 6, i), items[i]);
+                Due.is(23, "item " + i, park.get(5, 5, i), Float.floatToIntBits((float) items[i]));
+            }
+        }
     }
 
     private static final double[] TESTED = {Double.NaN, -INFINITE, -1.5, -0.0, 0.0, 1.0e-42, 1.5, INFINITE};

@@ -50,6 +50,7 @@ public final class RefusalsTest {
         windsAndBounds();
         runsAndResets();
         looks();
+        looksChangeNothing();
         Due.end("RefusalsTest");
     }
 
@@ -81,6 +82,18 @@ public final class RefusalsTest {
 
     private static void refusedIfFull(int promise, int code, String name, Object... arguments) throws ReflectiveOperationException {
         refused(promise, true, code, name, arguments);
+    }
+
+    /** A call that answers and leaves all as it is. */
+    private static void harmless(int promise, String name, Object... arguments) throws ReflectiveOperationException {
+        String words = name + Arrays.toString(arguments);
+        for (int look = 0; look < Look.LOOKS; look++) {
+            WindPark park = park(false);
+            METHODS.get(name).invoke(park, arguments);
+            Due.is(38, "why() behind " + words, park.why(), 0);
+            boolean same = Look.at(park, look).equals(RICH.get(look));
+            Due.is(promise, "nothing is changed by " + words + ", look " + look, same ? 1 : 0, 1);
+        }
     }
 
     private static void refused(int promise, boolean full, int code, String name, Object[] arguments)
@@ -746,5 +759,45 @@ public final class RefusalsTest {
         for (int what : noCounts) {
             refused(39, OUTSIDE, "count", what);
         }
+    }
+
+    /** Calls that tell something and calls for what is so already. */
+    private static void looksChangeNothing() throws ReflectiveOperationException {
+        harmless(6, "set", 3, 11);
+        harmless(6, "set", EMPTY, 21);
+        harmless(7, "clear", EMPTY);
+        harmless(8, "holds", 3);
+        harmless(8, "holds", EMPTY);
+        harmless(10, "get", 6, 6, 0);
+        harmless(12, "getAt", GRID, 1, 3);
+        harmless(16, "copy", 3, 4, 23, 30, 0);
+        harmless(16, "copy", VANES, 0, VANES, 0, 3);
+        harmless(17, "length", 3, 3);
+        harmless(18, "alike", 3, 23);
+        harmless(18, "alike", GRID, VANES);
+        for (int what = 0; what < 3; what++) {
+            harmless(20, "told", PART, what);
+        }
+        harmless(21, "traced", 0);
+        harmless(21, "traced", -1);
+        for (int what = 0; what < 6; what++) {
+            harmless(23, "seconds", 5, 5, what);
+            harmless(23, "seconds", 6, 6, what);
+            harmless(28, "acted", what);
+            harmless(39, "count", what);
+        }
+        for (int t = 0; t < 12; t++) {
+            harmless(24, "test", 6, 6, 0, 1, t);
+        }
+        harmless(26, "drop", 3);
+        harmless(29, "said", 0);
+        harmless(29, "said", -1);
+        for (int what = 0; what < 13; what++) {
+            harmless(36, "of", 1, what);
+            harmless(36, "of", 2, what);
+        }
+        harmless(37, "finding", 0, 3);
+        harmless(37, "finding", -1, 0);
+        harmless(38, "why");
     }
 }

@@ -33,6 +33,7 @@ public final class StoreEdgesTest {
         liftOfMissingIsEmpty();
         copiesUpToTheEnds();
         copiesAsTheyWereBefore();
+        copiedItemsAreTheSame();
         copiesItemByItem();
         copiesBetweenGridsAndCradles();
         lengthsFromNoneToMost();
@@ -107,6 +108,7 @@ public final class StoreEdgesTest {
             Due.is(15, "lift to " + c, park.lift(c, 0, 0, c), 1);
             Due.is(19, "ask " + c, park.ask(c, 0, 0), 40);
             Due.is(20, "told of " + c, park.told(c, 1), 0);
+            Due.is(20, "why", park.why(), 0);
             park.row(c, 6, 1);
             Due.is(23, "seconds of " + c, park.seconds(c, 6, 5), 1);
             Due.is(24, "test of " + c, park.test(c, 6, 0, 0, 4), 1);
@@ -596,6 +598,30 @@ public final class StoreEdgesTest {
                 Due.is(16, "place " + i, Look.serialAt(park, 2, i), due[i]);
             }
         }
+    }
+
+    /** ROWS of a GRID and PARTS of a CRADLE come as the same ones, items of ROWS as BITS. */
+    private static void copiedItemsAreTheSame() {
+        WindPark park = new WindPark(1);
+        park.grid(0, 2, 2);
+        park.grid(1, 2, 2);
+        Due.is(16, "rows of a grid", park.copy(0, 0, 1, 1, 1), 1);
+        park.putAt(0, 0, 1, 6);
+        Due.is(16, "the same row", park.getAt(1, 1, 1), 6);
+        Due.is(16, "the row beside it", park.getAt(1, 0, 1), 0);
+        park.cradle(2, 1, 1);
+        park.cradle(3, 7, 1);
+        park.part(4, 2);
+        park.lay(2, 0, 4);
+        Due.is(16, "parts of a cradle", park.copy(2, 0, 3, 0, 1), 1);
+        park.lift(3, 0, 2, 5);
+        Due.is(16, "the same part", park.alike(4, 5), 1);
+        park.row(6, 3, 1);
+        park.row(7, 3, 1);
+        park.put(6, 3, 0, 8);
+        Due.is(16, "items of a row", park.copy(6, 0, 7, 0, 1), 1);
+        park.put(6, 3, 0, 9);
+        Due.is(16, "are no more than their bits", park.get(7, 3, 0), 8);
     }
 
     /** "of CRADLES and GRIDS item by item, STORE at the first that does not belong (missing ones do): those ahead of it have come." */

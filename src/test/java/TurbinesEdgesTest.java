@@ -38,6 +38,7 @@ public final class TurbinesEdgesTest {
         pitchByItsRates();
         pitchWhileMaking();
         drivesAreAskedIfPitchMoves();
+        loadsOfDrivesAreCut();
         drivesThatFail();
         torqueByHalves();
         turnsAreNotBelowZero();
@@ -828,17 +829,51 @@ public final class TurbinesEdgesTest {
         park.read(0, 0, NO_NUMBER);
         park.run(1);
         Due.is(20, "stopping by 12", wear(park, 3), 35 + 12 * 12 / 100 + 12 / 2);
-        // turns above 10.0 by so much move the blades by eight times that
-        double[][] turns = {{10.0, 0, 0}, {Math.nextUp(10.0), 0, 2}, {10.0625, 0, 2}, {10.5, 4, 2}, {10.74, 5, 2}, {10.75, 6, 2}, {11.0, 6, 2}};
+    }
+
+    /** "by the LOAD (int) Math.abs(by)": TURNS above 10.0 by so much move the blades by eight times that. */
+    private static void loadsOfDrivesAreCut() {
+        double[][] turns = {{10.0, 0}, {Math.nextUp(10.0), 0}, {10.0625, 0}, {10.125, 1}, {10.5, 4}, {10.74, 5}, {10.75, 6}, {11.0, 6}};
         for (double[] one : turns) {
-            park = withTurns(one[0], reading -> stepped(makingAtPitch0(), reading));
+            WindPark park = withTurns(one[0], reading -> stepped(makingByAPitch(), reading));
             long ahead = wear(park, 3);
             park.forget();
             park.run(1);
-            int load = (int) one[1];
-            Due.is(39, "bodies of the drive and one of the blade", park.count(5), (long) one[2] + 1);
-            Due.is(20, "wear by turns of " + one[0], wear(park, 3) - ahead, load * load / 50);
+            Due.is(39, "bodies of the drive and one of the blade", park.count(5), one[0] == 10.0 ? 1 : 5);
+            Due.is(20, "wear by turns of " + one[0], wear(park, 3) - ahead, (long) one[1]);
         }
+        int nearlyOneMore = 0;
+        for (double wind = 14.0; wind <= 30.0; wind += 0.5) {
+            WindPark park = stepped(stepped(makingByAPitch(), wind), wind);
+            read(park, -1000.0);
+            park.run(1);
+            for (int i = 0; i < 4; i++) {
+                double pitch = of(park, 0, PITCH);
+                long ahead = wear(park, 3);
+                park.run(1);
+                double back = Math.min(6.0, pitch);
+                Due.bits(34, "without turns back to 0.0", park.of(0, PITCH), pitch - back);
+                Due.is(20, "wear by going back by " + back, wear(park, 3) - ahead, (int) back);
+                nearlyOneMore += back - (int) back >= 0.75 ? 1 : 0;
+            }
+        }
+        Due.is(34, "loads that are cut by much were seen", nearlyOneMore > 0 ? 1 : 0, 1);
+    }
+
+    /** As makingAtPitch0(), with a PITCH of SERIAL 1 in SLOT 3: up to a LOAD of 9 it WEARS by the LOAD. */
+    private static WindPark makingByAPitch() {
+        WindPark park = new WindPark(1);
+        Parks.fit(park, 0, 0, 1);
+        Parks.fit(park, 0, 3, 4);
+        Parks.fit(park, 0, 4, 5);
+        read(park, 12.0);
+        for (int i = 0; i < 40 && park.of(0, STATE) != MAKING; i++) {
+            park.run(1);
+        }
+        read(park, 8.0);
+        park.run(3);
+        Due.bits(34, "the test's own turbine has pitch 0.0", park.of(0, PITCH), 0.0);
+        return park;
     }
 
     /** "A FAILURE ends the turbine's STEP there, it is FAILED, TORQUE 0.0; a FINDING". */
@@ -894,6 +929,7 @@ public final class TurbinesEdgesTest {
         }
         Due.is(34, "still making", park.of(0, STATE), MAKING);
         Due.bits(34, "no turns, no torque", park.of(0, TORQUE), 0.0);
+        torqueAtManyWinds();
         park = making();
         park.run(5);
         double torque = of(park, 0, TORQUE);
@@ -903,6 +939,30 @@ public final class TurbinesEdgesTest {
             torque = torque / 2.0;
             Due.bits(34, "halved", park.of(0, TORQUE), torque);
         }
+    }
+
+    /** From less than 0.25 on and by less than 0.5 either way. */
+    private static void torqueAtManyWinds() {
+        int small = 0;
+        int falling = 0;
+        for (double wind = -30.0; wind <= 30.0; wind += 0.75) {
+            WindPark park = making();
+            park.run(6);
+            read(park, wind);
+            for (int i = 0; i < 12; i++) {
+                double torque = of(park, 0, TORQUE);
+                double by = of(park, 0, TURNS) * 0.5 - torque;
+                park.run(1);
+                if (park.of(0, STATE) == MAKING) {
+                    double due = torque + Math.max(-0.5, Math.min(0.5, by));
+                    Due.bits(34, "torque by a wind of " + wind, park.of(0, TORQUE), due);
+                    small += due > 0.0 && due < 0.25 ? 1 : 0;
+                    falling += by < -0.25 && by > -0.5 ? 1 : 0;
+                }
+            }
+        }
+        Due.is(34, "small ones were seen", small > 0 ? 1 : 0, 1);
+        Due.is(34, "slow falls were seen", falling > 0 ? 1 : 0, 1);
     }
 
     /** "TURNS: Math.max(0.0, TURNS + ..)". */
@@ -924,15 +984,30 @@ public final class TurbinesEdgesTest {
 
     /** "If TORQUE * TURNS is above BOUND: TORQUE = BOUND / TURNS." */
     private static void torqueWithinTheBound() {
-        WindPark free = making();
-        free.run(4);
-        double torque = of(free, 0, TORQUE);
-        double turns = of(free, 0, TURNS);
+        WindPark still = new WindPark(1);
+        still.bound(0, 0L);
+        still.run(1);
+        Due.bits(34, "nothing is not above a bound of 0.0", still.of(0, TORQUE), 0.0);
+        Due.bits(34, "no energy", still.of(0, ENERGY), 0.0);
+        int uneven = 0;
+        for (int steps = 1; steps <= 20; steps++) {
+            WindPark free = making();
+            free.run(steps + 1);
+            double torque = of(free, 0, TORQUE);
+            double turns = of(free, 0, TURNS);
+            uneven += torque * turns / turns != torque ? 1 : 0;
+            torqueWithinTheBound(steps, torque, turns);
+        }
+        Due.is(34, "quotients that do not come out even were seen", uneven > 0 ? 1 : 0, 1);
+    }
+
+    /** What TORQUE and TURNS are behind so many STEPS and one that no bound lessens. */
+    private static void torqueWithinTheBound(int steps, double torque, double turns) {
         double power = torque * turns;
         double[] bounds = {power, Math.nextUp(power), Math.nextDown(power), power / 2.0, 1.0, Double.MIN_VALUE, 0.0, -0.0, INFINITE};
         for (double bound : bounds) {
             WindPark park = making();
-            park.run(3);
+            park.run(steps);
             double energy = of(park, 0, ENERGY);
             park.bound(0, Parks.bits(bound));
             park.run(1);
