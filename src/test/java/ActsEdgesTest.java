@@ -147,6 +147,7 @@ public final class ActsEdgesTest {
         Plans.acted(park, "fails", 0, 2, 1, 1, 0, 0);
     }
 
+    /** "it comes to its end with NONE": of a PLAN without STEPS, too, within others as well. */
     private static void emptyPlansComeToTheirEnd() {
         WindPark park = Plans.with(1, "", "DO 0, TRY 0 0 0, FINALLY 0 0, HOLD 0 0");
         Plans.act(park, "an empty one", 0, 0);
@@ -263,6 +264,7 @@ public final class ActsEdgesTest {
         Due.is(27, "written", park.get(4, 3, 0), 8);
     }
 
+    /** "treated as a ROW of ints .. (CAST, NOTHING, INDEX)": each ahead of INDEX. */
     private static void writesOfWhatIsNoRowOfInts() {
         int[] items = {0, -1, 2};
         for (int i : items) {
@@ -449,6 +451,7 @@ public final class ActsEdgesTest {
         }
     }
 
+    /** "the top of the HAND, a PART": CAST for what is none. */
     private static void fitsOfWhatIsNoPart() {
         for (int slot = 0; slot < 5; slot++) {
             WindPark park = Plans.with(1, "HOLD 0 1", "TAKE 0, FIT 0 " + slot);
@@ -532,6 +535,7 @@ public final class ActsEdgesTest {
         }
     }
 
+    /** "what is in SLOT b comes on the HAND (from CASE 23)". */
     private static void stripsToCase23() {
         for (int slot = 0; slot < 5; slot++) {
             WindPark park = Plans.with(1, "HOLD 0 1", "STRIP 0 " + slot, "HOLD 0 3", "STRIP 0 " + slot + ", LAY 11");
@@ -602,6 +606,7 @@ public final class ActsEdgesTest {
         Plans.acted(park, "one behind another is not deep", 0, 18, 2, 9, 0, 0);
     }
 
+    /** "a ninth PLAN within one another .. would begin": by each OP that does a PLAN, and met by a TRY above. */
     private static void deepByEachStep() {
         String[] ninths = {"DO 8", "TRY 8 0 9", "TRY 8 8 9", "TRY 8 1 9", "FINALLY 8 9", "HOLD 0 8"};
         for (String ninth : ninths) {
@@ -764,6 +769,7 @@ public final class ActsEdgesTest {
         }
     }
 
+    /** "a pile of THINGS, each with the CASE that it was taken from": all that there are. */
     private static void all24CasesOnTheHand() {
         StringBuilder first = new StringBuilder("TAKE 0");
         StringBuilder second = new StringBuilder("TAKE 12");

@@ -327,6 +327,7 @@ public final class PartsEdgesTest {
         told(rows(-INFINITE, 5.0), 5.0, -INFINITE, -INFINITE, -INFINITE);
     }
 
+    /** Of a ROW that is full (30 items), and of one less. */
     private static void secondsOf30() {
         double[] items = new double[30];
         for (int i = 0; i < 30; i++) {

@@ -71,6 +71,7 @@ public final class StoreEdgesTest {
         Due.is(1, "the first serial", park.part(0, 0), 0);
     }
 
+    /** "A new object": what another one was told is not in it. */
     private static void objectsShareNothing() {
         WindPark one = Parks.rich();
         WindPark other = new WindPark(3);

@@ -442,6 +442,7 @@ public final class TurbinesEdgesTest {
         votes(park, "other bits between steps do not count", no);
     }
 
+    /** "of READINGS .. that .. had other BITS": each SENSOR by its own. */
     private static void coldVotesOfEachSensor() {
         double no = Double.NaN;
         WindPark park = new WindPark(1);
@@ -487,6 +488,7 @@ public final class TurbinesEdgesTest {
         }
     }
 
+    /** "is COLD or not": it is the STEP's own COLD that counts. */
     private static void coldComesAndGoes() {
         double no = Double.NaN;
         WindPark park = cold(2.0);
