@@ -8,10 +8,15 @@ final class Due {
 
     /** The promise by number, the call in words, its answer and the one that is due. */
     static void is(int promise, String call, long got, long due) {
+        is("promise " + promise + ": " + call, got, due);
+    }
+
+    /** The same of what is no promise's own. */
+    static void is(String what, long got, long due) {
         calls++;
         if (got != due) {
             wrong++;
-            System.out.println("promise " + promise + ": " + call + " answered " + got + ", due is " + due);
+            System.out.println(what + " answered " + got + ", due is " + due);
         }
     }
 
